@@ -456,7 +456,7 @@ public final class TokenBus {
         }
 
         void spoilAsPlanned() {
-            if (spoilMask != 0 && spoilAt >= 0 && spoilAt < size) {
+            if (spoilMask != 0 && spoilAt < size) {
                 bytes[spoilAt] ^= spoilMask;
             }
         }

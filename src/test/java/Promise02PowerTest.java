@@ -4,6 +4,7 @@ public final class Promise02PowerTest {
         refusals();
         onAndOff();
         whatGettingPowerResets();
+        polledBecomesItself();
         whatLosingPowerKeeps();
         holderLosesPower();
         anotherLosesPower();
@@ -73,6 +74,15 @@ public final class Promise02PowerTest {
         Due.is("node(2, 6)", bus.node(2, 6), 1);
         bus.step();
         Due.is("node(0, 7), its gains having stayed", bus.node(0, 7), 7);
+    }
+
+    private static void polledBecomesItself() {
+        TokenBus bus = Buses.powered(2);
+        Buses.steps(bus, 8 + 2);
+        bus.power(2, false);
+        Due.is("node(2, 2)", bus.node(2, 2), 4);
+        bus.power(2, true);
+        Due.is("node(2, 2)", bus.node(2, 2), 2);
     }
 
     private static void whatLosingPowerKeeps() {

@@ -11,6 +11,7 @@ public final class Promise06SpoilTest {
         noSuchFrame();
         laterPlanReplaces();
         forOneStepOnly();
+        noByteStaysSpoilt();
         Due.end();
     }
 
@@ -125,6 +126,17 @@ public final class Promise06SpoilTest {
         same.step();
         Due.is("frame(0, 3)", same.frame(0, 3), 1);
         Due.is("frame(0, 4)", same.frame(0, 4), 8);
+    }
+
+    private static void noByteStaysSpoilt() {
+        int[] plain = {85, 255, 0, 1, 0, 0, 0, tokenCheck()};
+        for (int at = 0; at < 8; at++) {
+            TokenBus bus = Buses.ring(0, 1);
+            bus.spoil(0, at, 64);
+            Buses.steps(bus, 2);
+            Due.is("holder()", bus.holder(), 1);
+            Due.is("frame(0, " + at + ")", bus.frame(0, at), plain[at]);
+        }
     }
 
     private static void forOneStepOnly() {

@@ -5,6 +5,7 @@ public final class Promise07SilenceTest {
         leastNodeCounts();
         silenceGrowsWithoutPower();
         lostTokenIsMadeAnew();
+        newTokenForgetsWhoWasPolled();
         Due.end();
     }
 
@@ -44,6 +45,22 @@ public final class Promise07SilenceTest {
         bus.step();
         Due.is("holder()", bus.holder(), 5);
         Due.is("total(3)", bus.total(3), 0);
+    }
+
+    private static void newTokenForgetsWhoWasPolled() {
+        TokenBus bus = Buses.ring(0, 3);
+        for (int k = 0; k < 3; k++) {
+            Buses.stepUntilTokenComes(bus, 0);
+        }
+        bus.step();
+        Due.is("holder()", bus.holder(), 3);
+        Due.is("node(0, 2)", bus.node(0, 2), 1);
+        bus.power(3, false);
+        Buses.steps(bus, 4);
+        Due.is("holder()", bus.holder(), 0);
+        Due.is("node(0, 2)", bus.node(0, 2), 0);
+        bus.step();
+        Due.is("frame(0, 3)", bus.frame(0, 3), 1);
     }
 
     private static void lostTokenIsMadeAnew() {
