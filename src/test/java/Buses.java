@@ -60,4 +60,24 @@ final class Buses {
         bus.step();
         return r;
     }
+
+    /** A step whose first frame is lost. */
+    static void loseFrame(TokenBus bus) {
+        bus.spoil(0, 7, 32);
+        bus.step();
+    }
+
+    /** A step whose second frame is lost. */
+    static void loseAnswer(TokenBus bus) {
+        bus.spoil(1, 7, 32);
+        bus.step();
+    }
+
+    /** Steps until node n has got the token for the third time since it polled: it is in USE, and POLL is near. */
+    static void stepUntilCountIsThree(TokenBus bus, int n) {
+        for (int k = 0; k < 60 && (bus.holder() != n || bus.node(n, 3) < 3); k++) {
+            bus.step();
+        }
+        Due.is("node(" + n + ", 3)", bus.node(n, 3), 3);
+    }
 }

@@ -5,7 +5,7 @@ public final class RefusedCallsTest {
     public static void main(String[] args) {
         TokenBus plain = busy();
         TokenBus teased = busy();
-        for (int k = 0; k < 12; k++) {
+        for (int k = 0; k < 10; k++) {
             tease(teased, ODD[k % ODD.length]);
             Due.is("step()", teased.step(), plain.step());
             alike(teased, plain);
