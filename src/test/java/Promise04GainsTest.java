@@ -4,6 +4,7 @@ public final class Promise04GainsTest {
         refusals();
         sumBecomesZero();
         edges();
+        eachGainForItsOwn();
         Due.end();
     }
 
@@ -44,5 +45,17 @@ public final class Promise04GainsTest {
                 Due.is("level(" + n + ", 15)", bus.level(n, 15), g[2]);
             }
         }
+    }
+
+    /** From the second step on the sum is another number than e, so that the gains cannot stand for one another. */
+    private static void eachGainForItsOwn() {
+        TokenBus bus = Buses.powered(4);
+        bus.sense(4, -16);
+        bus.gains(4, 3, 5);
+        Buses.steps(bus, 2);
+        Due.is("level(4, 15)", bus.level(4, 15), (3 * 16 + 5 * 32) / 16);
+        bus.gains(4, 5, 3);
+        Buses.steps(bus, 2);
+        Due.is("level(4, 15)", bus.level(4, 15), (5 * 16 + 3 * 32) / 16);
     }
 }

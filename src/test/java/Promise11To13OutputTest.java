@@ -5,6 +5,8 @@ public final class Promise11To13OutputTest {
         leastLevelCounts();
         zeroIsNotEmpty();
         anyInt();
+        threeObjects();
+        releasedIsEmpty();
         Due.end();
     }
 
@@ -67,5 +69,29 @@ public final class Promise11To13OutputTest {
             Due.is("level(1, 8)", bus.level(1, 8), number);
             Due.is("value(1, 1)", bus.value(1, 1), number);
         }
+    }
+
+    /** The loop's value is its setpoint, whatever its sum and its level are. */
+    private static void threeObjects() {
+        TokenBus bus = written(3, 21);
+        Buses.ask(bus, 1, Buses.what(Buses.WRITE, 2, 0), -22);
+        bus.sense(1, 20);
+        bus.gains(1, 16, 16);
+        Buses.steps(bus, 2);
+        Due.is("value(1, 0)", bus.value(1, 0), 20);
+        Due.is("value(1, 1)", bus.value(1, 1), 21);
+        Due.is("value(1, 2)", bus.value(1, 2), -22);
+        Due.is("level(1, 15)", bus.level(1, 15), -42 - 84);
+        for (int o = 0; o < 3; o++) {
+            Due.is("value(0, " + o + ")", bus.value(0, o), 0);
+        }
+    }
+
+    private static void releasedIsEmpty() {
+        TokenBus bus = written(3, 21);
+        Buses.ask(bus, 1, Buses.what(Buses.RELEASE, 1, 3), 4);
+        Due.is("level(1, 3)", bus.level(1, 3), 0);
+        Due.is("set(1, 3)", bus.set(1, 3), false);
+        Due.is("value(1, 1)", bus.value(1, 1), 0);
     }
 }

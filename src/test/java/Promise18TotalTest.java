@@ -17,10 +17,14 @@ public final class Promise18TotalTest {
             Due.is("total(2)", bus.total(2), k / 7);
         }
         Due.is("total(3)", bus.total(3), 0);
-        bus.power(bus.holder(), false);
-        Buses.steps(bus, 2);
-        Due.is("total(3)", bus.total(3), 2);
-        Due.is("total(0)", bus.total(0), 62);
+        bus.power(0, false);
+        bus.power(3, false);
+        for (int k = 1; k <= 15; k++) {
+            bus.step();
+            Due.is("total(3)", bus.total(3), k);
+            Due.is("total(0)", bus.total(0), 60 + k);
+            Due.is("total(1)", bus.total(1), frames);
+        }
         for (int what : new int[] {-1, 4, Integer.MIN_VALUE, Integer.MAX_VALUE}) {
             Due.is("total(" + what + ")", bus.total(what), -1);
         }

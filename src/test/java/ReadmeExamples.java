@@ -6,7 +6,7 @@ import java.util.List;
 import java.util.regex.Matcher;
 import java.util.regex.Pattern;
 
-/** Makes one program of README.md's Java examples, which compares what the lines answer with what README.md says. */
+/** Makes a program of README.md's Java examples, which compares what the lines answer with what README.md says. */
 public final class ReadmeExamples {
     static final String NAME = "ReadmeProgram";
 
@@ -24,32 +24,41 @@ public final class ReadmeExamples {
         Files.write(Path.of(args[1], NAME + ".java"), program(readme));
     }
 
+    /** Each example becomes a method, so that it must stand for itself. */
     static List<String> program(List<String> readme) {
         List<String> lines = new ArrayList<>();
         lines.add("public final class " + NAME + " {");
+        int examples = addExamples(readme, lines);
         lines.add("    public static void main(String[] args) {");
-        addExamples(readme, lines);
+        for (int k = 1; k <= examples; k++) {
+            lines.add("        example" + k + "();");
+        }
         lines.add("        Due.end();");
         lines.add("    }");
         lines.add("}");
         return lines;
     }
 
-    private static void addExamples(List<String> readme, List<String> lines) {
+    private static int addExamples(List<String> readme, List<String> lines) {
+        int examples = 0;
         boolean inside = false;
         for (int k = 0; k < readme.size(); k++) {
             String line = readme.get(k);
             if (inside && line.equals("```")) {
                 inside = false;
+                lines.add("    }");
             } else if (inside) {
                 addLine(line, "README.md line " + (k + 1), lines);
             } else if (line.equals("```java")) {
                 inside = true;
+                examples++;
+                lines.add("    private static void example" + examples + "() {");
             }
         }
         if (inside) {
             throw new IllegalArgumentException("README.md ends within an example");
         }
+        return examples;
     }
 
     /** A line that the pattern does not know, but that tells of an answer, must not go unlooked at. */

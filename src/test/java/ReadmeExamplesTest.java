@@ -1,4 +1,3 @@
-import java.util.ArrayList;
 import java.util.List;
 
 /** That every line of README.md that tells of an answer is looked at when its examples are run. */
@@ -44,8 +43,16 @@ public final class ReadmeExamplesTest {
     private static void onlyJavaBlocksAreTaken() {
         List<String> readme = List.of("bus.holder(); // answers 1", "```sh", ".ci/run", "```", "```java", "bus.step();", "```",
             "text", "```java", "bus.phase();", "```", "text");
-        List<String> program = ReadmeExamples.program(readme);
-        Due.is("the lines of two examples", inner(program).equals(List.of("bus.step();", "bus.phase();")), true);
+        List<String> due = List.of(
+            "public final class ReadmeProgram {",
+            "    private static void example1() {", "bus.step();", "    }",
+            "    private static void example2() {", "bus.phase();", "    }",
+            "    public static void main(String[] args) {",
+            "        example1();", "        example2();", "        Due.end();",
+            "    }",
+            "}");
+        List<String> got = ReadmeExamples.program(readme);
+        Due.is("the program of two examples: " + got, got.equals(due), true);
     }
 
     private static void whatCannotBeReadIsRefused() {
@@ -58,12 +65,10 @@ public final class ReadmeExamplesTest {
     }
 
     private static void becomes(String line, String... due) {
-        List<String> got = inner(ReadmeExamples.program(List.of("```java", line, "```")));
+        List<String> program = ReadmeExamples.program(List.of("```java", line, "```"));
+        List<String> got = program.subList(2, 2 + due.length);
         Due.is("made of '" + line + "': " + got, got.equals(List.of(due)), true);
-    }
-
-    private static List<String> inner(List<String> program) {
-        return new ArrayList<>(program.subList(2, program.size() - 3));
+        Due.is("the lines made of '" + line + "'", program.size(), 8 + due.length);
     }
 
     private static void isRefused(String... readme) {
